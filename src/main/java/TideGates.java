@@ -49,11 +49,6 @@ public final class TideGates {
     private static final int LEAST_DRAUGHT = 100;
     private static final int MOST_DRAUGHT = 2500;
 
-    // The least and the most of each number, in the order in which a text tells them.
-    private static final int[] WAVE_LIMITS = {0, 400, 60, 2000, 0, 2000};
-    private static final int[] BAR_LIMITS = {0, 200, LEAST_DEPTH, MOST_DEPTH, 1, 20, 0, LARGEST_DELAY, 50, 150};
-    private static final int[] SHIP_LIMITS = {LEAST_DRAUGHT, MOST_DRAUGHT, 40, 95, 0, 300, SLOWEST, QUICKEST};
-
     // Items of a formula below 0; an item from 0 on is a number that stands for itself.
     private static final int ITEM_SPEED = -1;
     private static final int ITEM_BLOCK = -2;
@@ -63,7 +58,6 @@ public final class TideGates {
     private static final int ITEM_MINUS = -6;
     private static final int ITEM_TIMES = -7;
     private static final int ITEM_BY = -8;
-    private static final int[] NO_FORMULA = {};
 
     private final Chart chart = new Chart();
     private final Past past = new Past();
@@ -477,6 +471,8 @@ public final class TideGates {
 
     /** All that undo() brings back. */
     private static final class Chart {
+        private static final int[] NO_FORMULA = {};
+
         int mean;
         int gap = GAP_UNTOLD;
         int surge;
@@ -628,6 +624,10 @@ public final class TideGates {
         private static final int TOO_DEEP = 4;
         private static final int DEEPEST = 4;
         private static final int TOO_LARGE = 1000000;
+        // The least and the most of each number, in the order in which a text tells them.
+        private static final int[] WAVE_LIMITS = {0, 400, 60, 2000, 0, 2000};
+        private static final int[] BAR_LIMITS = {0, 200, LEAST_DEPTH, MOST_DEPTH, 1, 20, 0, LARGEST_DELAY, 50, 150};
+        private static final int[] SHIP_LIMITS = {LEAST_DRAUGHT, MOST_DRAUGHT, 40, 95, 0, 300, SLOWEST, QUICKEST};
 
         private final byte[] tape;
         private final int[] items = new int[TAPE_SIZE];
