@@ -1,13 +1,39 @@
+import java.io.IOException;
+import java.nio.file.Files;
+import java.nio.file.Path;
+
 /** Counts what is not as due, prints it, and ends a test. */
 final class Check {
     private static final int MOST_PRINTED = 40;
+    private static final Path DOCUMENT = Path.of("../shared/DOC.md");
 
     private final String name;
+    private final String document;
+    private String sentence = "";
+    private int sentences;
     private int asked;
     private int wrong;
 
     Check(String name) {
         this.name = name;
+        document = documentText();
+    }
+
+    /** The sentence of the document that the checks from here on test; a word is given if it stands there no more. */
+    void says(String quote) {
+        sentence = " [" + quote + "]";
+        sentences++;
+        if (!document.isEmpty() && !document.contains(quote)) {
+            System.out.println(name + ": the document does not say (any more): " + quote);
+        }
+    }
+
+    private static String documentText() {
+        try {
+            return Files.exists(DOCUMENT) ? Files.readString(DOCUMENT).replaceAll("\\s+", " ") : "";
+        } catch (IOException e) {
+            return "";
+        }
     }
 
     /** A call whose answer, or whose exception, is looked at. */
@@ -34,7 +60,7 @@ final class Check {
         if (!holds) {
             wrong++;
             if (wrong <= MOST_PRINTED) {
-                System.out.println(name + ": " + what);
+                System.out.println(name + ": " + what + sentence);
             }
         }
     }
@@ -44,7 +70,8 @@ final class Check {
     }
 
     void end() {
-        System.out.println(name + ": " + asked + " looked at, " + wrong + " not as due");
+        String of = sentences == 0 ? "" : " for " + sentences + " sentences";
+        System.out.println(name + ": " + asked + " looked at" + of + ", " + wrong + " not as due");
         if (wrong != 0) {
             System.exit(1);
         }
