@@ -80,6 +80,7 @@ public final class ActsEdgesTest {
             before = depth;
         }
         check.is("acts", x.told(8), 6);
+        check.is("what the first was", Texts.gates(WORLD).sound(0, 777), 900);
         for (int depth : new int[] {99, 3001, 0, -100, Integer.MIN_VALUE, Integer.MAX_VALUE}) {
             check.refuses("depth " + depth, () -> x.sound(1, depth), NUMBER);
         }
@@ -102,6 +103,8 @@ public final class ActsEdgesTest {
             check.is("the others stay", x.ship(0, 0) + x.ship(1, 0), 1620);
             before = draught;
         }
+        check.is("what the first was", Texts.gates(WORLD).load(0, 777), 800);
+        check.is("what the second was", Texts.gates(WORLD).load(1, 777), 820);
         for (int draught : new int[] {99, 2501, 0, -100, Integer.MIN_VALUE, Integer.MAX_VALUE}) {
             check.refuses("draught " + draught, () -> x.load(2, draught), NUMBER);
         }
@@ -402,6 +405,8 @@ public final class ActsEdgesTest {
         for (int what = 0; what < due.length; what++) {
             check.is("told " + what, x.told(what), due[what]);
         }
+        TideGates y = Texts.gates("mean 9;wave 1 60 0;wave 1 60 0;wave 1 60 0;bar 0 100 1 0 50;");
+        check.is("waves, bars, ships", y.told(0) * 100 + y.told(1) * 10 + y.told(2), 310);
         for (int what : new int[] {-1, 9, Integer.MIN_VALUE, Integer.MAX_VALUE}) {
             check.refuses("told " + what, () -> x.told(what), NUMBER);
         }

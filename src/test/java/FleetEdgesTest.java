@@ -23,6 +23,7 @@ public final class FleetEdgesTest {
         test.convoyDay();
         test.convoySets();
         test.convoyFull();
+        test.convoyLastStart();
         test.orderLeast();
         test.orderTies();
         test.orderDay();
@@ -155,6 +156,28 @@ public final class FleetEdgesTest {
         check.isTrue("there is one behind the first", due > 10000);
         check.is("all six", x.convoy(63, 4, 10000), due);
         check.is("in their best order", x.order(63, 4, 10000, -1) <= due ? 1 : 0, 1);
+    }
+
+    /** The last of 1,440 STARTS, five GAPS of 240, half an hour on the bar: the last minute that a convoy can ask for. */
+    private void convoyLastStart() {
+        // The last ship needs a height of 395, once in 2,000 minutes; it passes for 30.
+        TideGates x = Texts.gates("mean 0;wave 400 2000 0;gap 240;squat 100;bar 0 1000 20 0 100;"
+                + "ship 100 50 0 4 4;".repeat(5) + "ship 1000 50 295 4 4;");
+        int first = x.window(5, 0, 4, 4100, 0, 0);
+        int last = x.window(5, 0, 4, 4100, 0, 1);
+        check.is("clear for as long", x.above(0, 1395, first, last + 30 - first + 1), last + 30 - first + 1);
+        check.is("and no longer", x.above(0, 1395, first - 1, 1) + x.above(0, 1395, last + 31, 1), 0);
+        check.is("the last START is the first good one", x.convoy(63, 4, first - 1200 - 1439), first - 1200);
+        check.is("one ahead of it", x.convoy(63, 4, first - 1200 - 1440), -1);
+        check.is("the last good one", x.convoy(63, 4, last - 1200), last - 1200);
+        check.is("one behind it", x.convoy(63, 4, last - 1200 + 1), -1);
+        // Two waves that are high together but once in these days: in no order can it be sooner.
+        TideGates y = Texts.gates("mean 500;wave 400 2000 1100;wave 400 1333 601;gap 240;bar 0 900 20 0 100;"
+                + "ship 100 40 0 4 9;".repeat(5) + "ship 1700 40 300 4 9;");
+        int high = y.window(5, 0, 4, 2200, 0, 0);
+        check.is("the last START in its best order", y.order(63, 4, high - 1200 - 1439, -1), high - 1200);
+        check.is("that ship behind all", y.order(63, 4, high - 1200 - 1439, 5), 5);
+        check.is("one ahead of it", y.order(63, 4, high - 1200 - 1440, -1), -1);
     }
 
     // ---- orders

@@ -165,7 +165,20 @@ public final class PassageEdgesTest {
     }
 
     private void windowsOfADay() {
-        TideGates x = Texts.gates(PULSE + bar(0, 1, "0 100") + IN);
+        // The same by what it sinks: nothing, 100 always, 100 by 6 knots, more the less water there is below 1,245.
+        String[] sinking = {"squat 0;ship 1000 50 245", "squat 100;ship 900 50 245", "squat speed*10+40;ship 900 50 245",
+            "squat (1245-water)*3;ship 1000 50 245", "squat 100+(1345-water)*3/4-75;ship 900 50 245",
+            "squat (water-1245)/2+18;ship 982 50 245", "ship 982 50 245", "squat draught/9;ship 900 50 245"};
+        for (String ship : sinking) {
+            windowsOfADay(Texts.gates("mean 0;wave 400 60 0;" + bar(0, 1, "0 100") + ship + " 6 6;"));
+        }
+        // From the last of the 1,440 on it passes in minutes behind them, which count.
+        TideGates two = Texts.gates(PULSE + bar(0, 2, "0 100") + IN);
+        check.is("last start 1458", two.window(0, 0, 6, 19, 23, 1), 1458);
+        check.is("last start 1458", two.window(0, 0, 6, 20, 23, 1), 1458);
+    }
+
+    private void windowsOfADay(TideGates x) {
         int[][] due = {
             // from, how many, first minute, last of the first, first of the last, last of the last
             {10, 24, 10, 19, 1390, 1399}, {11, 25, 11, 19, 1450, 1450}, {19, 25, 19, 19, 1450, 1458},
@@ -181,10 +194,6 @@ public final class PassageEdgesTest {
             check.is("first of the last from " + row[0], x.window(0, 0, 6, row[0], row[1] - 1, 0), row[4]);
             check.is("last of the last from " + row[0], x.window(0, 0, 6, row[0], row[1] - 1, 1), row[5]);
         }
-        // From the last of the 1,440 on it passes in minutes behind them, which count.
-        TideGates two = Texts.gates(PULSE + bar(0, 2, "0 100") + IN);
-        check.is("last start 1458", two.window(0, 0, 6, 19, 23, 1), 1458);
-        check.is("last start 1458", two.window(0, 0, 6, 20, 23, 1), 1458);
     }
 
     private void windowsMissing() {
@@ -311,6 +320,21 @@ public final class PassageEdgesTest {
         check.is("its own stays", x.ship(0, 0), 1000);
         check.is("and is not asked", loaded(x, 100).deepest(0, 9, 6), 977);
         check.is("and is not asked", loaded(x, 2500).deepest(0, 9, 6), 977);
+        // By what it sinks, too; the lowest water is in the first minute, in the last, at the first bar, at the second.
+        TideGates y = Texts.gates("mean 0;wave 400 60 0;squat speed*10+40;bar 5 900 1 0 100;bar 5 900 1 0 100;"
+                + "ship 200 50 245 6 6;ship 300 50 200 6 6;ship 2500 50 0 6 6;ship 2400 50 0 6 6;");
+        check.is("first minute", y.deepest(0, 4, 6), 877);
+        check.is("last minute", y.deepest(0, 9, 6), 877);
+        check.is("both", y.deepest(0, 5, 6), 900);
+        check.is("of each by its KEEP", y.deepest(1, 5, 6), 945);
+        check.is("of each by its KEEP", y.deepest(2, 5, 6), 1145);
+        check.is("of each by its KEEP", y.deepest(3, 9, 6), 1122);
+        y.sound(0, 800);
+        check.is("the first bar", y.deepest(0, 8, 6), 900 - 100 + (390 - 345));
+        y.sound(0, 1000);
+        check.is("the second bar", y.deepest(0, 8, 6), 900);
+        y.sound(1, 800);
+        check.is("the second bar", y.deepest(0, 8, 6), 800);
     }
 
     private static TideGates loaded(TideGates x, int draught) {
@@ -456,6 +480,10 @@ public final class PassageEdgesTest {
         String other = "mean 0;bar 60 2000 10 0 100;bar 60 1000 10 0 100;";
         check.is("by 20, then by 10", Texts.gates(other + "ship 900 95 0 5 20;").soonest(0, 0), 18 + 3 + 36 + 6);
         check.is("out: by 10, then by 20", Texts.gates(other + "ship 900 95 0 5 20 out;").soonest(0, 0), 6 + 18 + 3);
+        // Three distances: in they are ahead of their own bar, out that of the bar behind is ahead of a bar.
+        String three = "mean 0;bar 10 2000 1 0 100;bar 30 2000 1 0 100;bar 60 2000 1 0 100;squat 0;";
+        check.is("in", Texts.gates(three + "ship 900 95 0 6 6;").soonest(0, 0), 10 + 1 + 30 + 1 + 60 + 1);
+        check.is("out", Texts.gates(three + "ship 900 95 0 6 6 out;").soonest(0, 0), 1 + 60 + 1 + 30 + 1);
         // How far the first bar is does not matter going out.
         check.is("from the sea", Texts.gates("mean 0;bar 200 1000 10 0 100;ship 900 95 0 5 20 out;").soonest(0, 0), 6);
     }
@@ -470,6 +498,10 @@ public final class PassageEdgesTest {
         check.is("the faster is sooner", x.soonest(0, 506), 517);
         check.is("both to the 520th", x.soonest(0, 509), 520);
         check.is("neither", x.soonest(0, 510), -1);
+        check.is("asked behind others", x.soonest(0, 490), 501);
+        check.is("asked behind others", x.soonest(0, 467), -1);
+        check.is("asked behind others", x.soonest(0, 490), 501);
+        check.is("asked behind others", x.soonest(0, 468), 482);
         // Slow ahead of the first, so as not to come to the second too early.
         TideGates y = Texts.gates(PULSE + bar(10, 1, "6 100") + bar(0, 1, "9 100") + "ship 1000 50 245 5 6;");
         // By 6 on the first from 10 to 11 behind the START, by 5 from 12 to 14; on the second at once.

@@ -675,6 +675,10 @@ public final class TextEdgesTest {
         check.is("nobody is booked", x.told(6), 0);
         check.is("start", x.ship(0, 6), -1);
         check.is("speed", x.ship(0, 7), -1);
+        // What is not told any more is as without it.
+        Texts.tell(x, "mean 500;bar 10 900 5 0 100;ship 1000 80 100 4 20;");
+        check.is("no formula", x.squat(0, 0, 0, 10), 80);
+        check.is("gap, surge, waves", x.told(4) * 100 + x.told(5) * 10 + x.told(0), 1500);
         x.book(0, 5, 10);
         Texts.tell(x, "mean 3;");
         check.isTrue("as in a new object", Look.told(x).equals(Look.told(Texts.gates("mean 3;"))));

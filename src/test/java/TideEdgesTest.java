@@ -9,6 +9,7 @@ public final class TideEdgesTest {
         test.cutTurn();
         test.otherSign();
         test.cutPart();
+        test.wholePeriods();
         test.cutEachWave();
         test.sumOfAll();
         test.barsTide();
@@ -85,6 +86,20 @@ public final class TideEdgesTest {
         heights("mean 0;wave 400 2000 0;", new int[][] {{499, 399}, {500, 400}, {501, 399}, {480, 399}, {479, 398},
             {520, 399}, {521, 398}});
         heights("mean 0;wave 200 720 0;", new int[][] {{90, 141}, {180, 200}, {270, 141}, {450, -141}, {540, -200}});
+    }
+
+    private void wholePeriods() {
+        check.says("Its PART: 4,000 times x times (1,800 less x), by (4,050,000 less x times (1,800 less x)), cut,");
+        for (int period : new int[] {60, 61, 719, 1799, 1800, 1999, 2000}) {
+            TideGates x = Texts.gates("mean 0;wave 400 " + period + " 7;");
+            for (int m = 7; m < 7 + period; m++) {
+                long turn = (m - 7) * 3600L / period;
+                long half = turn % 1800;
+                long part = 4000 * half * (1800 - half) / (4050000 - half * (1800 - half));
+                long due = 400 * part / 1000;
+                check.is("height " + m + " by " + period, x.height(m), turn < 1800 ? due : -due);
+            }
+        }
     }
 
     private void cutEachWave() {
@@ -386,6 +401,14 @@ public final class TideEdgesTest {
         check.is("least of all", x.left(0, 0, 0, 4), 100 - 450 - 2500 - 9999);
         TideGates y = Texts.gates("mean 1000;surge 300;bar 0 3000 1 0 150;ship 100 40 0 4 4;squat 0;");
         check.is("most", y.left(0, 0, 0, 4), 3000 + 1950 - 100);
+        TideGates z = Texts.gates("mean 0;bar 0 1000 1 0 100;bar 0 1100 1 0 100;bar 0 1200 1 0 100;ship 700 50 0 4 25;"
+                + "ship 720 60 10 5 24;ship 740 70 20 6 23;");
+        for (int ship = 0; ship < 3; ship++) {
+            for (int bar = 0; bar < 3; bar++) {
+                check.is("of this ship at this bar", z.left(ship, bar, 0, 10),
+                        1000 + 100 * bar - 700 - 20 * ship - 50 - 10 * ship);
+            }
+        }
     }
 
     private void clear() {
@@ -423,6 +446,15 @@ public final class TideEdgesTest {
         check.is("only the fastest", Texts.gates(other + "(25-speed)*300;").fastest(0, 0, 0), 25);
         check.is("none in between", Texts.gates(other + "(speed-5)*(speed-5)*300;").fastest(0, 0, 0), 5);
         check.is("13 to 24 alone not", Texts.gates(other + "speed/13*(25-speed)*300;").fastest(0, 0, 0), 25);
+        // Of each ship by its own draught, KEEP and speeds, at each bar by its own depth.
+        TideGates y = Texts.gates("mean 0;bar 0 1000 1 0 100;bar 0 950 1 0 100;bar 0 1050 1 0 100;squat speed*10;"
+                + "ship 700 50 100 4 25;ship 720 50 130 5 24;ship 740 50 110 6 23;");
+        int[][] due = {{20, 15, 25}, {15, 10, 20}, {15, 10, 20}};
+        for (int ship = 0; ship < 3; ship++) {
+            for (int bar = 0; bar < 3; bar++) {
+                check.is("ship " + ship + " at bar " + bar, y.fastest(ship, bar, 0), due[ship][bar]);
+            }
+        }
         // In its minute alone, not while it would pass.
         TideGates x = Texts.gates("mean 0;wave 400 60 0;bar 0 900 20 0 100;ship 1000 50 300 4 4;squat 0;");
         check.is("in the 15th alone", x.fastest(0, 0, 15), 4);
