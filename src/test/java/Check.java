@@ -1,6 +1,8 @@
 import java.io.IOException;
 import java.nio.file.Files;
 import java.nio.file.Path;
+import java.util.HashSet;
+import java.util.Set;
 
 /** Counts what is not as due, prints it, and ends a test. */
 final class Check {
@@ -10,7 +12,7 @@ final class Check {
     private final String name;
     private final String document;
     private String sentence = "";
-    private int sentences;
+    private final Set<String> sentences = new HashSet<>();
     private int asked;
     private int wrong;
 
@@ -22,7 +24,7 @@ final class Check {
     /** The sentence of the document that the checks from here on test; a word is given if it stands there no more. */
     void says(String quote) {
         sentence = " [" + quote + "]";
-        sentences++;
+        sentences.add(quote);
         if (!document.isEmpty() && !document.contains(quote)) {
             System.out.println(name + ": the document does not say (any more): " + quote);
         }
@@ -70,7 +72,7 @@ final class Check {
     }
 
     void end() {
-        String of = sentences == 0 ? "" : " for " + sentences + " sentences";
+        String of = sentences.isEmpty() ? "" : " for " + sentences.size() + " sentences";
         System.out.println(name + ": " + asked + " looked at" + of + ", " + wrong + " not as due");
         if (wrong != 0) {
             System.exit(1);

@@ -83,6 +83,7 @@ public final class PassageEdgesTest {
         TideGates x = Texts.gates("mean 0;" + bars + "ship 100 50 0 4 4;ship 100 50 0 4 4 out;");
         check.is("in by 6", x.lasts(0, 6), 10 + 1 + 20 + 2 + 40 + 4);
         check.is("out by 6", x.lasts(1, 6), 4 + 40 + 2 + 20 + 1);
+        check.says("each BAR is passed from the MINUTE on in which it comes there. It ENDS behind the last of these.");
         check.is("it ENDS behind the last", x.book(1, 100, 4), 100 + 6 + 60 + 3 + 30 + 2);
         TideGates one = Texts.gates("mean 0;bar 200 900 1 0 100;ship 100 50 0 4 4;ship 100 50 0 4 4 out;");
         check.is("one bar, in", one.lasts(0, 6), 201);
@@ -172,6 +173,12 @@ public final class PassageEdgesTest {
         for (String ship : sinking) {
             windowsOfADay(Texts.gates("mean 0;wave 400 60 0;" + bar(0, 1, "0 100") + ship + " 6 6;"));
         }
+        // It sinks in high water's minute, the 15th, alone: broken there.
+        TideGates high = Texts.gates("mean 0;wave 400 60 0;squat water/1300*500;" + bar(0, 1, "0 100") + IN);
+        check.is("two in each 60 minutes", high.window(0, 0, 6, 0, -1, 0), 48);
+        check.is("ahead of it", high.window(0, 0, 6, 0, 0, 1), 13);
+        check.is("behind it", high.window(0, 0, 6, 0, 1, 0), 16);
+        check.is("behind it", high.window(0, 0, 6, 0, 1, 1), 19);
         // From the last of the 1,440 on it passes in minutes behind them, which count.
         TideGates two = Texts.gates(PULSE + bar(0, 2, "0 100") + IN);
         check.is("last start 1458", two.window(0, 0, 6, 19, 23, 1), 1458);

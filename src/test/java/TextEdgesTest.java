@@ -22,6 +22,7 @@ public final class TextEdgesTest {
         test.surgeBelow0();
         test.sixAtMost();
         test.numberedAsTold();
+        test.semicolons();
         test.onceEach();
         test.lieAndOut();
         test.formulaNumbers();
@@ -284,6 +285,9 @@ public final class TextEdgesTest {
     private static final String SHIP = "ship 100 40 0 4 4;";
 
     private void sixAtMost() {
+        check.says("a WAVE (6 at most)");
+        check.says("a BAR (6 at most)");
+        check.says("a SHIP (6 at most)");
         check.says("3 a seventh WAVE, BAR, SHIP (by its word)");
         for (String thing : new String[] {WAVE, BAR, SHIP}) {
             String six = "mean 5;" + thing.repeat(6);
@@ -341,6 +345,18 @@ public final class TextEdgesTest {
         }
     }
 
+    private void semicolons() {
+        check.says(", each with a \";\" }");
+        for (String one : new String[] {"wave 1 60 0", "bar 0 100 1 0 50", "bar 0 100 1 0 50 lie", "ship 100 40 0 4 4",
+            "ship 100 40 0 4 4 out", "squat 1", "squat (1)", "gap 1", "surge 1", "surge -1"}) {
+            fine("mean 5;" + one + ";", one.startsWith("bar") || one.startsWith("ship") ? 1 : 0);
+            flaw("mean 5;" + one, 1, 7 + one.length());
+            flaw("mean 5;" + one + ",", 1, 7 + one.length());
+            flaw("mean 5;" + one + " gap 5;", 1, 8 + one.length());
+            flaw("mean 5;" + one + ";;", 1, 8 + one.length());
+        }
+    }
+
     private void onceEach() {
         check.says("\"squat\", \"gap\", \"surge\" once each.");
         check.says("\"squat\", \"gap\", \"surge\" a second time, by its word");
@@ -386,6 +402,7 @@ public final class TextEdgesTest {
         flaw("mean 5;bar 0 100 1 0 50 li;", 1, 24);
         flaw("mean 5;bar 0 100 1 0 lie;", 1, 21);
         flaw("mean 5;bar lie 0 100 1 0 50;", 1, 11);
+        check.says("\"out\": it goes out, else in");
         flaw("mean 5;ship 100 40 0 4 4 lie;", 1, 25);
         flaw("mean 5;ship 100 40 0 4 4 out out;", 1, 29);
         flaw("mean 5;ship 100 40 0 4 4 outs;", 1, 25);
@@ -468,6 +485,11 @@ public final class TextEdgesTest {
     // ---- numbers, words, blanks
 
     private void digits() {
+        check.says("2 a number that is none such");
+        flaw("mean 1001;", 2, 5);
+        flaw("mean   1001;", 2, 7);
+        flaw("mean 5;wave 1 60 2001;", 2, 17);
+        fine("mean 5;wave 1 60 2000;", 0);
         check.says("N: digits, as many as stand there");
         TideGates x = new TideGates();
         check.is("zeros ahead", Texts.tell(x, "mean " + "0".repeat(590) + "1000;"), 0);

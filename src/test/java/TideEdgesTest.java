@@ -186,8 +186,16 @@ public final class TideEdgesTest {
         check.is("the last but one", x.height(9999), -1 - 322);
         check.refuses("ahead", () -> x.height(-1), IllegalArgumentException.class);
         check.refuses("behind", () -> x.height(10001), IllegalArgumentException.class);
+        check.says("WATER at a BAR in a MINUTE.");
+        check.is("water, the first", x.water(0, 0), 1000);
         check.is("water, the last", x.water(0, 10000), 655);
+        check.says("LEFT likewise.");
+        check.is("left, the first", x.left(0, 0, 0, 4), 1000 - 100 - 6);
         check.is("left, the last", x.left(0, 0, 10000, 4), 655 - 100 - 6);
+        for (int m : new int[] {-1, 10001, Integer.MIN_VALUE, Integer.MAX_VALUE}) {
+            check.refuses("water " + m, () -> x.water(0, m), IllegalArgumentException.class);
+            check.refuses("left " + m, () -> x.left(0, 0, m, 4), IllegalArgumentException.class);
+        }
         // It passes the bar until the 10,002nd: 2 of the one wave, -380 of the other.
         check.is("least, the last", x.least(0, 10000, 4), 1000 + 2 - 380 - 106);
         // What it takes from the last START on is behind 10,000, and told all the same.
