@@ -52,7 +52,8 @@ public final class FleetEdgesTest {
     }
 
     private void convoyGap() {
-        check.says("the first one's START is that, each other one's GAP later than that of the one ahead; all are GOOD");
+        check.says("the first one's START is that, each other one's GAP later than that of the one ahead;"
+                + " all are GOOD");
         check.is("gap 0", pair(0, 0), 10);
         check.is("gap 0", pair(0, 19), 19);
         check.is("gap 0", pair(0, 20), 70);
@@ -158,7 +159,7 @@ public final class FleetEdgesTest {
         check.is("in their best order", x.order(63, 4, 10000, -1) <= due ? 1 : 0, 1);
     }
 
-    /** The last of 1,440 STARTS, five GAPS of 240, half an hour on the bar: the last minute that a convoy can ask for. */
+    /** The last of 1,440 STARTS, five GAPS of 240, half an hour on the bar: the last minute that a convoy asks for. */
     private void convoyLastStart() {
         // The last ship needs a height of 395, once in 2,000 minutes; it passes for 30.
         TideGates x = Texts.gates("mean 0;wave 400 2000 0;gap 240;squat 100;bar 0 1000 20 0 100;"
@@ -221,6 +222,13 @@ public final class FleetEdgesTest {
         order(x, 7, 13, 13, 0, 1, 2);
         order(x, 7, 18, 18, 0, 1, 2);
         order(x, 7, 19, 59, 2, 1, 0);
+        // Two that need the same 10 minutes, and one that may go at any time: it goes ahead of them or behind them.
+        TideGates y = Texts.gates(PULSE + ALWAYS + DEEP + DEEP + "gap 6;");
+        order(y, 7, 4, 4, 0, 1, 2);
+        order(y, 7, 7, 7, 0, 1, 2);
+        order(y, 7, 8, 10, 1, 2, 0);
+        order(y, 7, 13, 13, 1, 2, 0);
+        order(y, 7, 14, 64, 0, 1, 2);
     }
 
     private void orderDay() {
@@ -244,26 +252,37 @@ public final class FleetEdgesTest {
         check.refuses("-2", () -> x.order(42, 6, 7, -2), NoSuchElementException.class);
     }
 
-    /** All orders one by one, by least() alone. */
+    /** All orders one by one, by least() alone; those that go out are on the bar 7 minutes sooner than the others. */
     private void orderAsTrying() {
-        TideGates x = Texts.gates(PULSE + DEEP + LIGHT + ALWAYS + "ship 1000 50 290 6 6;gap 7;");
-        for (int m = 0; m < 60; m += 7) {
-            int[] best = new int[5];
-            best[0] = -1;
-            for (int start = m; start < m + 1440 && best[0] == -1; start++) {
-                if (tries(x, 15, start, 1, best)) {
-                    best[0] = start;
+        String bar = "mean 0;wave 400 60 0;squat 0;bar 7 900 1 0 100;";
+        String[] fleets = {DEEP + LIGHT + ALWAYS + "ship 1000 50 290 6 6;", ALWAYS + DEEP + DEEP + LIGHT + LIGHT,
+            DEEP + "ship 1000 50 245 6 6 out;" + LIGHT + "ship 1000 50 100 6 6 out;" + ALWAYS,
+            "ship 1000 50 0 6 6 out;" + DEEP + DEEP + LIGHT + ALWAYS + ALWAYS};
+        for (String fleet : fleets) {
+            for (int gap = 0; gap <= 12; gap += 3) {
+                TideGates x = Texts.gates(bar + fleet + "gap " + gap + ";");
+                for (int m = 0; m < 60; m += 7) {
+                    asTrying(x, (1 << x.told(2)) - 1, m);
                 }
-            }
-            check.is("least start from " + m, x.order(15, 6, m, -1), best[0]);
-            for (int k = 0; k < 4; k++) {
-                check.is(k + "-th from " + m, x.order(15, 6, m, k), best[0] == -1 ? -1 : best[k + 1]);
             }
         }
     }
 
+    private void asTrying(TideGates x, int set, int m) {
+        int[] ships = new int[7];
+        int best = -1;
+        for (int start = m; start < m + 70 && best == -1; start++) {
+            best = tries(x, set, start, 0, ships) ? start : -1;
+        }
+        // The tide comes again in 60 minutes: what is not found in 70 is never found.
+        check.is("least start from " + m, x.order(set, 6, m, -1), best);
+        for (int k = 0; k < x.told(2); k++) {
+            check.is(k + "-th from " + m, x.order(set, 6, m, k), best == -1 ? -1 : ships[k]);
+        }
+    }
+
     private static boolean tries(TideGates x, int rest, int start, int place, int[] ships) {
-        for (int ship = 0; ship < 4 && rest != 0; ship++) {
+        for (int ship = 0; ship < x.told(2) && rest != 0; ship++) {
             if ((rest >> ship & 1) == 1 && x.least(ship, start, 6) >= x.ship(ship, 2)) {
                 ships[place] = ship;
                 if (tries(x, rest & ~(1 << ship), start + x.told(4), place + 1, ships)) {

@@ -96,7 +96,8 @@ public final class PassageEdgesTest {
     private void eachForItself() {
         check.says("each distance, each LENGTH takes its time for itself");
         // By 25 each of the twelve takes 1 minute; together they would take 3.
-        TideGates x = Texts.gates("mean 0;" + "bar 1 900 1 0 100;".repeat(6) + "ship 100 50 0 4 4;ship 100 50 0 4 4 out;");
+        TideGates x = Texts.gates("mean 0;" + "bar 1 900 1 0 100;".repeat(6)
+                + "ship 100 50 0 4 4;ship 100 50 0 4 4 out;");
         check.is("in by 25", x.lasts(0, 25), 12);
         check.is("out by 25", x.lasts(1, 25), 11);
         check.is("in by 5", x.lasts(0, 5), 24);
@@ -342,6 +343,10 @@ public final class PassageEdgesTest {
         check.is("the second bar", y.deepest(0, 8, 6), 900);
         y.sound(1, 800);
         check.is("the second bar", y.deepest(0, 8, 6), 800);
+        // Asked behind a call that looked at low water, from the 43rd minute on.
+        TideGates z = Texts.gates("mean 0;wave 400 60 0;squat 100;bar 0 900 1 0 100;ship 200 50 245 6 6;");
+        check.is("windows", z.window(0, 0, 6, 43, -1, 0), 24);
+        check.is("from high water on", z.deepest(0, 15, 6), 900 + 397 - 100 - 245);
     }
 
     private static TideGates loaded(TideGates x, int draught) {
@@ -419,7 +424,8 @@ public final class PassageEdgesTest {
     private void soonestLongWay() {
         // By 4 knots 300 and 30 for each of three, then 8 and 2.
         String bars = "bar 200 900 20 0 100;".repeat(3);
-        check.is("just 1,000", Texts.gates("mean 0;" + bars + "bar 5 900 1 0 100;ship 100 50 0 4 4;").soonest(0, 7), 1007);
+        check.is("just 1,000", Texts.gates("mean 0;" + bars + "bar 5 900 1 0 100;ship 100 50 0 4 4;").soonest(0, 7),
+                1007);
         check.is("1,001", Texts.gates("mean 0;" + bars + "bar 6 900 1 0 100;ship 100 50 0 4 4;").soonest(0, 7), -1);
         check.is("1,001, faster", Texts.gates("mean 0;" + bars + "bar 6 900 1 0 100;ship 100 50 0 4 5;").soonest(0, 7),
                 7 + 3 * (240 + 24) + 8 + 2);

@@ -6,7 +6,7 @@ import java.util.Map;
 
 /**
  * Of every call every argument at its edges: the last that is allowed throws nothing, the first that is not throws what
- * the document says; of several wrong ones the exception told first; and a call that throws changes nothing but status().
+ * the document says; of several wrong ones the exception told first; a call that throws changes nothing but status().
  */
 public final class RefusalsTest {
     /** Ship 0 goes in by 4 to 20, ship 1 (out, by 5 to 15) is booked in setUp(), ship 2 has but one speed. */

@@ -739,7 +739,8 @@ public final class TextEdgesTest {
     }
 
     private void faultPlace() {
-        check.says("The place of the FAULT of the latest text() that threw nothing; NONE without one, and ahead of any.");
+        check.says("The place of the FAULT of the latest text() that threw nothing; NONE without one, and ahead of"
+                + " any.");
         TideGates x = new TideGates();
         check.is("ahead of any", x.fault(), -1);
         check.refuses("one that throws", () -> x.text(1), IllegalArgumentException.class);

@@ -1,4 +1,4 @@
-/** The sentences of the document that name edges of tides, waters and what ships sink (section 2, promises 15 to 21). */
+/** The sentences of the document that name edges of tides, waters, what ships sink (section 2, promises 15 to 21). */
 public final class TideEdgesTest {
     private final Check check = new Check("TideEdgesTest");
 
@@ -79,7 +79,8 @@ public final class TideEdgesTest {
     }
 
     private void cutPart() {
-        check.says("4,000 times x times (1,800 less x), by (4,050,000 less x times (1,800 less x)), cut, with its sign.");
+        check.says("4,000 times x times (1,800 less x), by (4,050,000 less x times (1,800 less x)), cut, with its"
+                + " sign.");
         // x 10: 17.757.. is 17, of which 400 makes 6.8; uncut it would make 7.1.
         heights("mean 0;wave 400 2000 0;", new int[][] {{6, 6}, {1006, -6}});
         // x 900: 1,000 at most, in one minute alone.
